@@ -10,6 +10,7 @@ public final class FiresTest {
         seenEdges();
         stuckByMajority();
         stuckOnlyByAimedAt();
+        stuckByWhatWasToldSinceRun();
         Check.end("FiresTest");
     }
 
@@ -247,5 +248,23 @@ public final class FiresTest {
         Check.due("jet 0", x.stuck(0), 0);
         Check.due("jet 1", x.stuck(1), 1);
         Check.due("jet 2 was not used", x.stuck(2), -1);
+    }
+
+    private static void stuckByWhatWasToldSinceRun() {
+        JetTiming x = new JetTiming(1);
+        x.wanted(0, 1);
+        for (int p = 0; p < 4; p++) {
+            x.piece(10 * p, 0, 1, 0, 0);
+        }
+        x.run();
+        x.seen(0, true);
+        x.seen(1, true);
+        x.seen(2, false);
+        Check.due("two blown, one not", x.stuck(0), -1);
+        x.seen(3, false);
+        Check.due("two blown, two not", x.stuck(0), -1);
+        x.run();
+        x.seen(0, false);
+        Check.due("blown before run, not behind it", x.stuck(0), 0);
     }
 }

@@ -9,6 +9,7 @@ public final class PieceTest {
         middleByDistanceAndLength();
         middleWhenTheBeltSlipsBack();
         middleAtTheLastTick();
+        middleBehindAllRows();
         middleOfNoPiece();
         meetByTicks();
         meetByJets();
@@ -191,6 +192,36 @@ public final class PieceTest {
         Check.due("by a mark at 20000", x.middle(3), -1);
         x.distance(10000);
         Check.due("by the jump of a mark at 20000", x.middle(0), 20000);
+    }
+
+    private static void middleBehindAllRows() {
+        JetTiming x = new JetTiming(1);
+        x.piece(0, 0, 1, 0, 0);
+        for (int i = 0; i < 8; i++) {
+            x.speed(10 + 20 * i, i == 7 ? 2 : 1);
+            x.mark(20 + 20 * i, i % 2 == 0 ? 0 : -5);
+        }
+        // 140 by tick 150, 160 by 160; the last mark takes 5 away.
+        Check.due("at the last mark", x.at(160), 155);
+        x.distance(200);
+        Check.due("middle behind 8 rows and 8 marks", x.middle(0), 183);
+        x.distance(155);
+        Check.due("middle at the last mark", x.middle(0), 160);
+        // At 159 it went 158, and the line from 0 at 140 to -5 at 160 tells -4.75, down -5.
+        x.distance(153);
+        Check.due("middle before the last mark", x.middle(0), 159);
+        // Marks alone, whose line rises to 10 i by i a tick, and falls to 0 again.
+        JetTiming y = new JetTiming(1);
+        for (int i = 0; i < 8; i++) {
+            y.mark(10 * i, i % 2 == 0 ? 0 : 10 * i);
+        }
+        y.piece(0, 0, 1, 0, 0);
+        for (int i = 1; i < 8; i += 2) {
+            y.distance(10 * i);
+            Check.due("middle on top " + i, y.middle(0), 10 * i);
+            y.distance(10 * i - i);
+            Check.due("middle below top " + i, y.middle(0), 10 * i - 1);
+        }
     }
 
     private static void middleOfNoPiece() {
