@@ -41,6 +41,7 @@ public final class TermsTest {
         ofALargeGroupOnlyAboveZero();
         spansThatDoNotTouch();
         spansInTheirOrder();
+        spansOfCutOffBlows();
         spansOfAimedAtOnly();
         strengthToldLastCounts();
         strengthIsOneWhenNoneCounts();
@@ -684,6 +685,26 @@ public final class TermsTest {
         y.run();
         // 28 .. 31 touches 24 .. 27.
         spans("blows that overlap", y, 0, 8, 31, 398, 401);
+    }
+
+    /** Blows that are cut off at tick 0 begin together; the longest one tells the span's last tick. */
+    private static void spansOfCutOffBlows() {
+        JetTiming x = onOneJet(5, 9, 3, 0, 8, 1, 2, 4, 6);
+        x.lag(10, 2);
+        x.run();
+        spans("nine cut off", x, 0, 0, 11);
+        // Each of the two that share jet 1 hits a good one beside it, so both are aimed at.
+        JetTiming y = new JetTiming(3);
+        y.wanted(0, 1);
+        y.lag(10, 0);
+        y.piece(7, 0, 2, 0, 1);
+        y.piece(4, 1, 2, 0, 1);
+        y.piece(7, 0, 1, 0, 0);
+        y.piece(4, 2, 1, 0, 0);
+        found("two cut off", y, 4, 2, 2, 2, 1, 1);
+        spans("two cut off, jet 0", y, 0, 0, 7);
+        spans("two cut off, jet 1", y, 1, 0, 7);
+        spans("two cut off, jet 2", y, 2, 0, 4);
     }
 
     /** "for the blows of the pieces that are aimed at and have it" */
